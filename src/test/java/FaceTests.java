@@ -19,6 +19,9 @@ public final class FaceTests {
 
     public static void main(String[] args) {
         due("the class's modifiers", CallNumbers.class.getModifiers(), Modifier.PUBLIC | Modifier.FINAL);
+        due("the class above it", CallNumbers.class.getSuperclass(), Object.class);
+        due("its interfaces", CallNumbers.class.getInterfaces().length, 0);
+        due("its package", CallNumbers.class.getPackageName(), "");
         due("NONE", CallNumbers.NONE, -1);
         due("the constructors", constructors(), Set.of("public CallNumbers(int)"));
         due("the methods", methods(), new TreeSet<>(Arrays.asList(
@@ -35,6 +38,7 @@ public final class FaceTests {
                 "public int spine(int)",
                 "public int pass(int)")));
         due("the fields", fields(), Set.of("public static final int NONE"));
+        due("the classes inside that can be seen or are not static", openClasses(), Set.of());
         due("the number of namesakes", namesakes(), 0);
         System.out.println(wrong == 0 ? "the face is as due" : wrong + " answers are not as due");
         if (wrong != 0) {
@@ -68,6 +72,18 @@ public final class FaceTests {
         for (Field field : CallNumbers.class.getDeclaredFields()) {
             if (!Modifier.isPrivate(field.getModifiers())) {
                 seen.add(field.toString().replace("CallNumbers.", ""));
+            }
+        }
+        return seen;
+    }
+
+    private static Set<String> openClasses() {
+        Set<String> seen = new TreeSet<>();
+        for (Class<?> inside : CallNumbers.class.getDeclaredClasses()) {
+            int modifiers = inside.getModifiers();
+            boolean open = Modifier.isPublic(modifiers) || Modifier.isProtected(modifiers);
+            if (open || !Modifier.isStatic(modifiers)) {
+                seen.add(inside.getName());
             }
         }
         return seen;

@@ -1,76 +1,54 @@
-/** For each promise of the document ordinary calls, the edges that it names, and wrong calls. */
+/**
+ * For each promise of the document ordinary calls, the edges that it names, and wrong calls; in both
+ * schemes where the promise does not tell them apart.
+ */
 public final class PromiseTests {
-    private static final int NONE = -1;
-    private static final long THROWS = Long.MIN_VALUE;
-
-    private static int wrong = 0;
-
-    private static void due(String call, long got, long want) {
-        if (got != want) {
-            wrong++;
-            System.out.println(call + " answered " + told(got) + ", due is " + told(want));
-        }
-    }
-
-    private static String told(long answer) {
-        return answer == THROWS ? "throws.ArrayIndexOutOfBoundsException" : Long.toString(answer);
-    }
+    private static final int NONE = CallNumbers.NONE;
+    private static final long THROWS = Answers.THROWS;
 
     public static void main(String[] args) {
         newObject();
-        signs();
         readDecimal();
         readLettered();
-        readCutter();
-        readRest();
-        readKeeps();
-        parts();
+        partsDecimal();
+        partsLettered();
         letters();
-        put();
-        putFull();
-        shelfAndTake();
         orderDecimal();
         orderLettered();
-        compare();
-        before();
-        free();
-        freeRunsOut();
+        freeOfOtherClasses();
         spine();
-        pass();
-        passRemembers();
-        System.out.println(wrong == 0 ? "all answers are as due" : wrong + " answers are not as due");
-        if (wrong != 0) {
-            System.exit(1);
+        for (int scheme = 0; scheme <= 1; scheme++) {
+            Answers.about("scheme " + scheme);
+            signs(scheme);
+            readCutter(scheme);
+            readRest(scheme);
+            readKeeps(scheme);
+            put(scheme);
+            putFull(scheme);
+            shelfAndTake(scheme);
+            orderBehindClasses(scheme);
+            compare(scheme);
+            before(scheme);
+            free(scheme);
+            freeRunsOut(scheme);
+            pass(scheme);
+            passRemembers(scheme);
         }
+        Answers.end();
     }
 
-    private static int read(CallNumbers x, String text) {
-        for (int k = 0; k < text.length(); k++) {
-            x.sign(text.charAt(k));
-        }
-        return x.read();
-    }
-
-    private static int put(CallNumbers x, String text, int record) {
-        due("read() of " + text, Math.min(read(x, text), 0), 0);
-        return x.put(record);
-    }
-
-    private static long part(CallNumbers x, int i) {
-        try {
-            return x.part(i);
-        } catch (ArrayIndexOutOfBoundsException e) {
-            return THROWS;
-        }
+    private static void due(String call, long got, long want) {
+        Answers.due(call, got, want);
     }
 
     private static void dueRead(int scheme, String text, int want) {
-        due("scheme " + scheme + ", read() of '" + text + "'", read(new CallNumbers(scheme), text), want);
+        due("read() of '" + Desk.inScheme(scheme, text) + "'", new Desk(scheme).read(text), want);
     }
 
-    /** The sign at this place is WRONG. */
+    /** The sign at this place of the text that is written here is WRONG. */
     private static void dueWrong(int scheme, String text, int place) {
-        dueRead(scheme, text, -1 - place);
+        int shorter = text.length() - Desk.inScheme(scheme, text).length();
+        dueRead(scheme, text, -1 - (place - shorter));
     }
 
     // Promise 1
@@ -80,9 +58,9 @@ public final class PromiseTests {
             boolean lettered = scheme >= 1;
             dueRead(scheme, "822 S5", lettered ? -1 : 2);
             dueRead(scheme, "QA76 D3", lettered ? 2 : -1);
-            CallNumbers x = new CallNumbers(scheme);
+            Desk x = new Desk(scheme);
             due("new: read()", x.read(), -1);
-            due("new: part(0)", part(x, 0), THROWS);
+            due("new: part(0)", x.part(0), THROWS);
             due("new: letter(0)", x.letter(0), 0);
             due("new: put(1)", x.put(1), NONE);
             due("new: shelf(0)", x.shelf(0), NONE);
@@ -97,25 +75,23 @@ public final class PromiseTests {
     }
 
     // Promise 2
-    private static void signs() {
-        CallNumbers x = new CallNumbers(0);
-        for (char c : "822 S5".toCharArray()) {
+    private static void signs(int scheme) {
+        String text = Desk.inScheme(scheme, "800 S5");
+        Desk x = new Desk(scheme);
+        for (char c : text.toCharArray()) {
             x.sign(c + 256 * (c - 70));
         }
         due("read() of signs with higher bits", x.read(), 2);
-        for (char c : "822 S5".toCharArray()) {
+        for (char c : text.toCharArray()) {
             x.sign(c | Integer.MIN_VALUE);
         }
         due("read() of signs below 0", x.read(), 2);
         x.sign(-1);
         due("read() of sign 255", x.read(), -1);
-        read(x, "822 S5");
-        for (int k = 0; k < 70; k++) {
-            x.sign("822 S5".charAt(k % 6));
-        }
-        due("read() of 70 signs", x.read(), -11);
-        due("read() of none behind 70", x.read(), -1);
-        due("read() behind 70", read(x, "822 S5"), 2);
+        x.collect(text).collect("x".repeat(64 - text.length()));
+        due("read() of 64 signs", x.read(), -1 - text.length());
+        due("read() of none behind 64", x.read(), -1);
+        due("read() behind 64", x.read("800 S5"), 2);
     }
 
     // Promise 3
@@ -175,113 +151,116 @@ public final class PromiseTests {
         dueWrong(1, "[1 D3", 0);
     }
 
-    private static void readCutter() {
-        dueRead(0, "822 S05", 2);
-        dueRead(0, "822 Z000001", 2);
-        dueWrong(0, "822 s5", 4);
-        dueWrong(0, "822 5", 4);
-        dueWrong(0, "822 S", 5);
-        dueWrong(0, "822 S ", 5);
-        dueWrong(0, "822 SS5", 5);
-        dueWrong(0, "822 S0", 5);
-        dueWrong(0, "822 S50", 6);
-        dueWrong(0, "822 S123450", 10);
-        dueWrong(0, "822 S1234567", 11);
-        dueWrong(0, "822 S1234507", 11);
-        dueWrong(0, "822 S5.1", 6);
-        dueWrong(0, "822 S5a", 6);
-        dueWrong(0, "822 S5 ", 7);
-        dueWrong(0, "822 S5  1987", 7);
-        dueWrong(0, "822 S5 S5", 7);
+    private static void readCutter(int scheme) {
+        dueRead(scheme, "800 S05", 2);
+        dueRead(scheme, "800 Z000001", 2);
+        dueWrong(scheme, "800 s5", 4);
+        dueWrong(scheme, "800 5", 4);
+        dueWrong(scheme, "800 S", 5);
+        dueWrong(scheme, "800 S ", 5);
+        dueWrong(scheme, "800 SS5", 5);
+        dueWrong(scheme, "800 S0", 5);
+        dueWrong(scheme, "800 S50", 6);
+        dueWrong(scheme, "800 S123450", 10);
+        dueWrong(scheme, "800 S1234567", 11);
+        dueWrong(scheme, "800 S1234507", 11);
+        dueWrong(scheme, "800 S5.1", 6);
+        dueWrong(scheme, "800 S5a", 6);
+        dueWrong(scheme, "800 S5 ", 7);
+        dueWrong(scheme, "800 S5  1987", 7);
+        dueWrong(scheme, "800 S5 S5", 7);
     }
 
-    private static void readRest() {
-        dueRead(0, "822 S5 1000", 3);
-        dueRead(0, "822 S5 v.1", 3);
-        dueRead(0, "822 S5 v.9999a", 3);
-        dueRead(0, "822 S5 v", 3);
-        dueRead(0, "822 S5 vv", 3);
-        dueRead(0, "822 S5 v.1 v", 4);
-        dueRead(0, "822 S5 1987 a", 4);
-        dueRead(0, "822 S5 1987 v.1", 4);
-        dueRead(0, "822 S5 1987 v.1a vol", 5);
-        dueWrong(0, "822 S5 0987", 7);
-        dueWrong(0, "822 S5 198", 10);
-        dueWrong(0, "822 S5 198 v.1", 10);
-        dueWrong(0, "822 S5 19870", 11);
-        dueWrong(0, "822 S5 1987a", 11);
-        dueWrong(0, "822 S5 1987 ", 12);
-        dueWrong(0, "822 S5 1987 1988", 12);
-        dueWrong(0, "822 S5 v.", 9);
-        dueWrong(0, "822 S5 v.a", 9);
-        dueWrong(0, "822 S5 v.0", 9);
-        dueWrong(0, "822 S5 v.01", 9);
-        dueWrong(0, "822 S5 v.12345", 13);
-        dueWrong(0, "822 S5 v.1ab", 11);
-        dueWrong(0, "822 S5 v.1a1", 11);
-        dueWrong(0, "822 S5 v.1A", 10);
-        dueWrong(0, "822 S5 v.1 1987", 11);
-        dueWrong(0, "822 S5 v.1 v.2", 11);
-        dueWrong(0, "822 S5 vv.1", 9);
-        dueWrong(0, "822 S5 u.1", 8);
-        dueWrong(0, "822 S5 V.1", 7);
-        dueWrong(0, "822 S5 abcdefghi", 15);
-        dueWrong(0, "822 S5 abcA", 10);
-        dueWrong(0, "822 S5 abc ", 11);
-        dueWrong(0, "822 S5 abc def", 11);
-        dueWrong(0, "822 S5 abc v.1", 11);
-        dueWrong(0, "822 S5 abc  ", 11);
-        dueWrong(0, "822 S5 {", 7);
-        dueWrong(0, "822 S5 `", 7);
+    private static void readRest(int scheme) {
+        dueRead(scheme, "800 S5 1000", 3);
+        dueRead(scheme, "800 S5 v.1", 3);
+        dueRead(scheme, "800 S5 v.9999a", 3);
+        dueRead(scheme, "800 S5 v", 3);
+        dueRead(scheme, "800 S5 vv", 3);
+        dueRead(scheme, "800 S5 v.1 v", 4);
+        dueRead(scheme, "800 S5 1987 a", 4);
+        dueRead(scheme, "800 S5 1987 v.1", 4);
+        dueRead(scheme, "800 S5 1987 v.1a vol", 5);
+        dueWrong(scheme, "800 S5 0987", 7);
+        dueWrong(scheme, "800 S5 198", 10);
+        dueWrong(scheme, "800 S5 198 v.1", 10);
+        dueWrong(scheme, "800 S5 19870", 11);
+        dueWrong(scheme, "800 S5 1987a", 11);
+        dueWrong(scheme, "800 S5 1987 ", 12);
+        dueWrong(scheme, "800 S5 1987 1988", 12);
+        dueWrong(scheme, "800 S5 v.", 9);
+        dueWrong(scheme, "800 S5 v.a", 9);
+        dueWrong(scheme, "800 S5 v.0", 9);
+        dueWrong(scheme, "800 S5 v.01", 9);
+        dueWrong(scheme, "800 S5 v.12345", 13);
+        dueWrong(scheme, "800 S5 v.1ab", 11);
+        dueWrong(scheme, "800 S5 v.1a1", 11);
+        dueWrong(scheme, "800 S5 v.1A", 10);
+        dueWrong(scheme, "800 S5 v.1 1987", 11);
+        dueWrong(scheme, "800 S5 v.1 v.2", 11);
+        dueWrong(scheme, "800 S5 vv.1", 9);
+        dueWrong(scheme, "800 S5 u.1", 8);
+        dueWrong(scheme, "800 S5 V.1", 7);
+        dueWrong(scheme, "800 S5 abcdefghi", 15);
+        dueWrong(scheme, "800 S5 abcA", 10);
+        dueWrong(scheme, "800 S5 abc ", 11);
+        dueWrong(scheme, "800 S5 abc def", 11);
+        dueWrong(scheme, "800 S5 abc v.1", 11);
+        dueWrong(scheme, "800 S5 abc  ", 11);
+        dueWrong(scheme, "800 S5 {", 7);
+        dueWrong(scheme, "800 S5 `", 7);
     }
 
-    private static void readKeeps() {
-        CallNumbers x = new CallNumbers(0);
-        due("read()", read(x, "822.3 S5"), 2);
+    private static void readKeeps(int scheme) {
+        Desk x = new Desk(scheme);
+        due("read()", x.read("800.3 S5"), 2);
         due("read() of nothing", x.read(), -1);
-        due("part(0) behind a wrong read()", part(x, 0), 822300000000L);
-        due("read() of a wrong one", read(x, "123 T7 19"), -10);
-        due("part(0) behind a wrong read()", part(x, 0), 822300000000L);
-        due("part(1) behind a wrong read()", part(x, 1), 500000);
-        due("part(2) behind a wrong read()", part(x, 2), 0);
-        due("spine(0) behind a wrong read()", x.spine(0), 5);
-        due("spine(2) behind a wrong read()", x.spine(2), NONE);
-        due("read() of another", read(x, "123 T7"), 2);
-        due("part(0) of another", part(x, 0), 123000000000L);
+        due("part(1) behind a wrong read()", x.part(1), 500000);
+        due("read() of a wrong one", Math.max(x.read("100 T7 19"), -1), -1);
+        due("part(0) behind a wrong read()", x.part(0), scheme == 0 ? 800300000000L : 83000);
+        due("part(1) behind a wrong read()", x.part(1), 500000);
+        due("part(2) behind a wrong read()", x.part(2), 0);
+        due("spine(0) behind a wrong read()", x.spine(0), scheme == 0 ? 5 : 1);
+        due("spine(3) behind a wrong read()", x.spine(3), NONE);
+        due("read() of another", x.read("100 T7"), 2);
+        due("part(0) of another", x.part(0), scheme == 0 ? 100000000000L : 10000);
     }
 
     // Promise 4
-    private static void dueParts(CallNumbers x, long... want) {
+    private static void dueParts(Desk x, long... want) {
         for (int k = 0; k < want.length; k++) {
-            due("part(" + k + ")", part(x, k), want[k]);
+            due("part(" + k + ")", x.part(k), want[k]);
         }
     }
 
-    private static void parts() {
-        CallNumbers x = new CallNumbers(0);
-        read(x, "822.33 S527 1987 v.12b large");
+    private static void partsDecimal() {
+        Desk x = new Desk(0);
+        x.with("822.33 S527 1987 v.12b large");
         dueParts(x, 822330000000L, 527000, 1987, 12, 5, THROWS, THROWS);
-        due("part(-1)", part(x, -1), THROWS);
-        due("part(least)", part(x, Integer.MIN_VALUE), THROWS);
-        due("part(greatest)", part(x, Integer.MAX_VALUE), THROWS);
-        read(x, "001.000000009 A000001");
+        due("part(-1)", x.part(-1), THROWS);
+        due("part(least)", x.part(Integer.MIN_VALUE), THROWS);
+        due("part(greatest)", x.part(Integer.MAX_VALUE), THROWS);
+        x.with("001.000000009 A000001");
         dueParts(x, 1000000009L, 1, 0, 0, 0);
-        read(x, "999.999999999 Z999999 9999 v.9999z zzzzzzzz");
+        x.with("999.999999999 Z999999 9999 v.9999z zzzzzzzz");
         dueParts(x, 999999999999L, 999999, 9999, 9999, 8);
-        read(x, "000 A01 v.7");
+        x.with("000 A01 v.7");
         dueParts(x, 0, 10000, 0, 7, 0);
-        CallNumbers y = new CallNumbers(1);
+    }
+
+    private static void partsLettered() {
+        Desk y = new Desk(1);
         dueParts(y, THROWS, THROWS, THROWS, THROWS, THROWS, THROWS);
-        read(y, "QA76.9 D3 v");
+        y.with("QA76.9 D3 v");
         dueParts(y, 769000, 300000, 0, 0, 1);
-        read(y, "Q9999.0001 D3 1000");
+        y.with("Q9999.0001 D3 1000");
         dueParts(y, 99990001, 300000, 1000, 0, 0);
-        read(y, "QAB5 D3");
+        y.with("QAB5 D3");
         dueParts(y, 50000, 300000, 0, 0, 0);
     }
 
     // Promise 5
-    private static void dueLetters(CallNumbers x, String want) {
+    private static void dueLetters(Desk x, String want) {
         for (int k = 0; k < want.length(); k++) {
             due("letter(" + k + ")", x.letter(k), want.charAt(k));
         }
@@ -293,59 +272,58 @@ public final class PromiseTests {
     }
 
     private static void letters() {
-        CallNumbers x = new CallNumbers(0);
-        read(x, "822 S5 mark");
+        Desk x = new Desk(0);
+        x.with("822 S5 mark");
         dueLetters(x, "S");
-        CallNumbers y = new CallNumbers(1);
+        Desk y = new Desk(1);
         dueLetters(y, "");
-        read(y, "Q1 D3 v.1a mark");
+        y.with("Q1 D3 v.1a mark");
         dueLetters(y, "QD");
-        read(y, "QA1 E3");
+        y.with("QA1 E3");
         dueLetters(y, "QAE");
-        read(y, "ZXY1 A3");
+        y.with("ZXY1 A3");
         dueLetters(y, "ZXYA");
     }
 
     // Promise 6
-    private static void put() {
-        CallNumbers x = new CallNumbers(0);
-        due("put of the first", put(x, "500 M5", 1), 0);
+    private static void put(int scheme) {
+        Desk x = new Desk(scheme);
+        due("put of the first", x.put("500 M5", 1), 0);
         due("put of it again", x.put(2), -2);
         due("its record stays", x.shelf(0), 1);
-        due("put behind it", put(x, "500 M6", 3), 1);
-        due("put in front", put(x, "499.9 Z9", -1), 0);
-        due("put between", put(x, "500 M5 1999", 1), 2);
-        due("put of the last again", put(x, "500 M6", 9), -5);
-        due("put of the first again", put(x, "499.9 Z9", 9), -2);
+        due("put behind it", x.put("500 M6", 3), 1);
+        due("put in front", x.put("400.9 Z9", -1), 0);
+        due("put between", x.put("500 M5 1999", 1), 2);
+        due("put of the last again", x.put("500 M6", 9), -5);
+        due("put of the first again", x.put("400.9 Z9", 9), -2);
         int[] want = {-1, 1, 1, 3, NONE};
         for (int k = 0; k < want.length; k++) {
             due("shelf(" + k + ")", x.shelf(k), want[k]);
         }
     }
 
-    private static void putFull() {
-        CallNumbers x = new CallNumbers(1);
+    private static void putFull(int scheme) {
+        Desk x = new Desk(scheme);
         for (int k = 0; k < 60; k++) {
-            char capital = (char) ('Z' - k / 9);
-            String text = new StringBuilder("Q1 ").append(capital).append(9 - k % 9).toString();
-            due("put on the shelf that fills", put(x, text, 100 + k), 0);
+            String text = "100 " + (char) ('Z' - k / 9) + (9 - k % 9);
+            due("put of '" + text + "' on the shelf that fills", x.put(text, 100 + k), 0);
         }
-        due("put on the full shelf", put(x, "Q1 A1", 7), NONE);
+        due("put on the full shelf", x.put("100 A1", 7), NONE);
         due("before() on the full shelf", x.before(), 0);
         due("shelf(59) of the full shelf", x.shelf(59), 100);
         due("shelf(60) of the full shelf", x.shelf(60), NONE);
-        due("put of the same on the full shelf", put(x, "Q1 Z9", 7), -61);
+        due("put of the same on the full shelf", x.put("100 Z9", 7), -61);
         due("take(59)", x.take(59), 100);
         due("put where there is room again", x.put(7), 59);
-        due("put on the shelf that is full again", put(x, "Q1 A1", 7), NONE);
+        due("put of it again on the full shelf", x.put(8), -61);
     }
 
     // Promises 7 and 8
-    private static void shelfAndTake() {
-        CallNumbers x = new CallNumbers(0);
-        put(x, "100 A1", 10);
-        put(x, "200 A1", -1);
-        put(x, "300 A1", Integer.MIN_VALUE);
+    private static void shelfAndTake(int scheme) {
+        Desk x = new Desk(scheme);
+        x.put("100 A1", 10);
+        x.put("200 A1", -1);
+        x.put("300 A1", Integer.MIN_VALUE);
         int[] outside = {-1, 3, 60, Integer.MIN_VALUE, Integer.MAX_VALUE};
         for (int place : outside) {
             due("shelf(" + place + ")", x.shelf(place), NONE);
@@ -357,7 +335,7 @@ public final class PromiseTests {
         due("shelf(0) behind take", x.shelf(0), 10);
         due("shelf(1) behind take", x.shelf(1), Integer.MIN_VALUE);
         due("shelf(2) behind take", x.shelf(2), NONE);
-        due("the latest stays behind take", part(x, 0), 300000000000L);
+        due("the latest stays behind take", x.part(1), 100000);
         due("take(0)", x.take(0), 10);
         due("take(0)", x.take(0), Integer.MIN_VALUE);
         due("take(0) of none", x.take(0), NONE);
@@ -367,10 +345,10 @@ public final class PromiseTests {
 
     // ORDER, by compare, put and before
     private static void dueOrder(int scheme, String... inOrder) {
-        CallNumbers x = new CallNumbers(scheme);
+        Desk x = new Desk(scheme);
         for (int k = 0; k < inOrder.length; k++) {
             int turn = k % 2 == 0 ? k / 2 : inOrder.length - 1 - k / 2;
-            put(x, inOrder[turn], turn);
+            x.put(inOrder[turn], turn);
         }
         for (int k = 0; k < inOrder.length; k++) {
             due("place of " + inOrder[k], x.shelf(k), k);
@@ -383,26 +361,29 @@ public final class PromiseTests {
     private static void orderDecimal() {
         dueOrder(0, "000 Z9", "001 A1", "010 A1", "010.01 A1", "010.1 A1", "010.101 A1", "010.11 A1",
                 "010.2 A1", "011 A1", "999.999999999 A1");
-        dueOrder(0, "500 A5", "500 A51", "500 B05", "500 B4", "500 B401", "500 B41", "500 B5 1999 v.1",
-                "500 C1");
-        dueOrder(0, "500 A5", "500 A5 a", "500 A5 ab", "500 A5 b", "500 A5 v.1", "500 A5 v.1 z",
-                "500 A5 v.1a", "500 A5 v.1a b", "500 A5 v.1b a", "500 A5 v.2", "500 A5 v.10",
-                "500 A5 1000", "500 A5 1000 z", "500 A5 1000 v.1", "500 A5 9999", "500 A51");
     }
 
     private static void orderLettered() {
         dueOrder(1, "A9999.9999 Z9", "AA1 A1", "AAA1 A1", "AAB1 A1", "AB1 A1", "B1 A1", "B2 A1",
                 "B10 A1", "B10.01 A1", "B10.1 A1", "B10.11 A1", "B10.2 A1", "B11 A1", "ZZZ1 A1");
-        dueOrder(1, "Q1 D3", "Q1 D3 abcdefgh", "Q1 D3 zz", "Q1 D3 zzzzzzzy", "Q1 D3 zzzzzzzz",
-                "Q1 D3 v.999z", "Q1 D3 v.1000", "Q1 D3 1999 v.2", "Q1 D3 2000 v.1");
+    }
+
+    private static void orderBehindClasses(int scheme) {
+        dueOrder(scheme, "500 A5", "500 A51", "500 B05", "500 B4", "500 B401", "500 B41",
+                "500 B5 1999 v.1", "500 C1");
+        dueOrder(scheme, "500 A5", "500 A5 a", "500 A5 ab", "500 A5 b", "500 A5 v.1", "500 A5 v.1 z",
+                "500 A5 v.1a", "500 A5 v.1a b", "500 A5 v.1b a", "500 A5 v.2", "500 A5 v.10",
+                "500 A5 1000");
+        dueOrder(scheme, "500 A5 zzzzzzzz", "500 A5 v.999z", "500 A5 v.1000", "500 A5 1000",
+                "500 A5 1000 z", "500 A5 1000 v.1", "500 A5 9999", "500 A51");
     }
 
     // Promise 9
-    private static void compare() {
-        CallNumbers x = new CallNumbers(1);
+    private static void compare(int scheme) {
+        Desk x = new Desk(scheme);
         due("compare on no shelf", x.compare(0, 0), -2);
-        put(x, "Q1 D3", 1);
-        put(x, "Q1 D4", 1);
+        x.put("100 D3", 1);
+        x.put("100 D4", 1);
         due("compare(0, 0)", x.compare(0, 0), 0);
         due("compare(1, 1)", x.compare(1, 1), 0);
         due("compare(0, 1)", x.compare(0, 1), -1);
@@ -416,49 +397,48 @@ public final class PromiseTests {
     }
 
     // Promise 10
-    private static void before() {
-        CallNumbers x = new CallNumbers(0);
+    private static void before(int scheme) {
+        Desk x = new Desk(scheme);
         due("before() without one", x.before(), NONE);
-        read(x, "500 M5");
-        due("before() on no shelf", x.before(), 0);
+        due("before() on no shelf", x.with("500 M5").before(), 0);
         x.put(1);
         due("before() of what is there", x.before(), 0);
-        put(x, "400 M5", 2);
-        put(x, "600 M5", 3);
+        x.put("400 M5", 2);
+        x.put("600 M5", 3);
         due("before() of the last", x.before(), 2);
-        read(x, "500 M5 a");
-        due("before() of what is not there", x.before(), 2);
-        read(x, "999 Z9");
-        due("before() behind all", x.before(), 3);
+        due("before() of what is not there", x.with("500 M5 a").before(), 2);
+        due("before() behind all", x.with("900.9 Z9").before(), 3);
         x.take(0);
         due("before() behind take", x.before(), 2);
     }
 
     // Promise 11
-    private static int free(CallNumbers x, String text) {
-        due("read() of " + text, Math.min(read(x, text), 0), 0);
-        return x.free();
+    private static int free(Desk x, String text) {
+        return x.with(text).free();
     }
 
-    private static void free() {
-        CallNumbers x = new CallNumbers(0);
+    private static void free(int scheme) {
+        Desk x = new Desk(scheme);
         due("free() without one", x.free(), 0);
         due("free() on no shelf", free(x, "500 M05"), 5);
         due("free() of 000001", free(x, "500 M000001"), 1);
-        put(x, "500 M05 1999 v.1 a", 1);
+        x.put("500 M05 1999 v.1 a", 1);
         due("free() with a 0 first", free(x, "500 M05"), 51);
         due("free() of another cutter", free(x, "500 M5"), 5);
         due("free() of another capital", free(x, "500 N05"), 5);
         due("free() of another class", free(x, "500.1 M05"), 5);
-        put(x, "500 M051", 1);
-        put(x, "500 M053", 1);
+        x.put("500 M051", 1);
+        x.put("500 M053", 1);
         due("free() between", free(x, "500 M05 2000"), 52);
-        put(x, "500 M052", 1);
+        x.put("500 M052", 1);
         due("free() behind three", free(x, "500 M05"), 54);
         x.take(0);
         due("free() of what was taken", x.free(), 5);
-        CallNumbers y = new CallNumbers(1);
-        put(y, "QA1 D3", 1);
+    }
+
+    private static void freeOfOtherClasses() {
+        Desk y = new Desk(1);
+        y.put("QA1 D3", 1);
         due("free() of the letters", free(y, "QA1 D3"), 31);
         due("free() of other letters", free(y, "QB1 D3"), 3);
         due("free() of fewer letters", free(y, "Q1 D3"), 3);
@@ -466,36 +446,30 @@ public final class PromiseTests {
         due("free() of another fraction", free(y, "QA1.1 D3"), 3);
     }
 
-    private static void freeRunsOut() {
-        CallNumbers x = new CallNumbers(1);
-        put(x, "Q1 D123456", 1);
+    private static void freeRunsOut(int scheme) {
+        Desk x = new Desk(scheme);
+        x.put("100 D123456", 1);
         due("free() of six digits", x.free(), 0);
-        put(x, "Q1 D12345", 1);
+        x.put("100 D12345", 1);
         for (int k = 1; k <= 9; k++) {
-            due("free() of five digits", free(x, "Q1 D12345"), k == 6 ? 123457 : 123450 + k);
-            put(x, "Q1 D12345" + k, 1);
+            due("free() of five digits", free(x, "100 D12345"), k == 6 ? 123457 : 123450 + k);
+            x.put("100 D12345" + k, 1);
         }
-        due("free() of five digits, none free", free(x, "Q1 D12345"), 0);
-        CallNumbers y = new CallNumbers(1);
-        put(y, "Q1 D3", 1);
+        due("free() of five digits, none free", free(x, "100 D12345"), 0);
+        Desk y = new Desk(scheme);
+        y.put("100 D3", 1);
         for (int k = 1; k <= 9; k++) {
-            put(y, "Q1 D3" + k, 1);
+            y.put("100 D3" + k, 1);
         }
-        due("free() with two more", free(y, "Q1 D3"), 311);
+        due("free() with two more", free(y, "100 D3"), 311);
         for (int k = 311; k <= 319; k++) {
-            put(y, "Q1 D" + k, 1);
+            y.put("100 D" + k, 1);
         }
-        due("free() leaves 20 out", free(y, "Q1 D3"), 321);
-        CallNumbers z = new CallNumbers(1);
-        put(z, "Q1 D1234", 1);
-        for (int k = 1; k <= 9; k++) {
-            put(z, "Q1 D1234" + k, 1);
-        }
-        due("free() of four digits", free(z, "Q1 D1234"), 123411);
+        due("free() leaves 20 out", free(y, "100 D3"), 321);
     }
 
     // Promise 12
-    private static void dueLines(CallNumbers x, int... want) {
+    private static void dueLines(Desk x, int... want) {
         for (int k = 0; k < want.length; k++) {
             due("spine(" + k + ")", x.spine(k), want[k]);
         }
@@ -507,34 +481,34 @@ public final class PromiseTests {
     }
 
     private static void spine() {
-        CallNumbers x = new CallNumbers(0);
+        Desk x = new Desk(0);
         dueLines(x);
-        read(x, "822 S5");
+        x.with("822 S5");
         dueLines(x, 3, 2);
-        read(x, "822.33 S527 1987 v.12b large");
+        x.with("822.33 S527 1987 v.12b large");
         dueLines(x, 6, 4, 4, 5, 5);
-        read(x, "822.123456789 S123456 v.1 abcdefgh");
+        x.with("822.123456789 S123456 v.1 abcdefgh");
         dueLines(x, 13, 7, 3, 8);
-        read(x, "822 S5 a");
+        x.with("822 S5 a");
         dueLines(x, 3, 2, 1);
-        CallNumbers y = new CallNumbers(1);
+        Desk y = new Desk(1);
         dueLines(y);
-        read(y, "Q1 D3");
+        y.with("Q1 D3");
         dueLines(y, 1, 1, 2);
-        read(y, "QAB9999.9999 D34 1987 v.1234a mark");
+        y.with("QAB9999.9999 D34 1987 v.1234a mark");
         dueLines(y, 3, 9, 3, 4, 7, 4);
-        read(y, "QA76.9 D3 v.2a");
+        y.with("QA76.9 D3 v.2a");
         dueLines(y, 2, 4, 2, 4);
     }
 
     // Promise 13
-    private static void pass() {
-        CallNumbers x = new CallNumbers(0);
-        put(x, "100 A1", 10);
-        put(x, "200 A1", 20);
-        put(x, "300 A1", 30);
-        put(x, "400 A1", 20);
-        put(x, "500 A1", -1);
+    private static void pass(int scheme) {
+        Desk x = new Desk(scheme);
+        x.put("100 A1", 10);
+        x.put("200 A1", 20);
+        x.put("300 A1", 30);
+        x.put("400 A1", 20);
+        x.put("500 A1", -1);
         due("pass of none", x.pass(40), NONE);
         due("pass(20), none told", x.pass(20), 1);
         due("pass(30)", x.pass(30), 1);
@@ -550,13 +524,13 @@ public final class PromiseTests {
     }
 
     /** Told is a call number: it is behind or before others wherever it has come to stand. */
-    private static void passRemembers() {
-        CallNumbers x = new CallNumbers(0);
-        put(x, "300 A1", 30);
-        put(x, "500 A1", 50);
+    private static void passRemembers(int scheme) {
+        Desk x = new Desk(scheme);
+        x.put("300 A1", 30);
+        x.put("500 A1", 50);
         due("pass(30)", x.pass(30), 1);
-        put(x, "100 A1", 10);
-        put(x, "200 A1", 20);
+        x.put("100 A1", 10);
+        x.put("200 A1", 20);
         due("pass(20) of what was put in front", x.pass(20), 0);
         due("pass(30)", x.pass(30), 1);
         due("take(2)", x.take(2), 30);
@@ -564,7 +538,7 @@ public final class PromiseTests {
         due("pass(20) behind what was taken", x.pass(20), 0);
         due("pass(50)", x.pass(50), 1);
         due("take(2)", x.take(2), 50);
-        put(x, "600 A1", 60);
+        x.put("600 A1", 60);
         due("pass(60) behind what was taken", x.pass(60), 1);
     }
 }

@@ -1,4 +1,5 @@
 import java.util.ArrayList;
+import java.util.Collections;
 import java.util.Comparator;
 import java.util.HashSet;
 import java.util.List;
@@ -290,6 +291,7 @@ public final class ModelTests {
         private final int scheme;
         private final boolean narrow;
         private final boolean late;
+        private final List<String> shortOnes = new ArrayList<>();
 
         Texts(Random dice, int scheme, int kind) {
             this.dice = dice;
@@ -311,10 +313,17 @@ public final class ModelTests {
             return dice.nextInt(100) < percent;
         }
 
-        /** One so short that enough of them fill a shelf within an object's calls. */
-        String shortOne() {
-            return from("ABCDEFGHIJ", 1, 1) + from("123456789", 1, 1) + " "
-                    + from("KLMNOPQRST", 1, 1) + from("123456789", 1, 1);
+        /** So short that enough of them fill a shelf within an object's calls; none comes twice at first. */
+        String shortOne(int turn) {
+            if (turn == 0) {
+                for (char capital = 'A'; capital <= 'Z'; capital++) {
+                    for (char digit = '1'; digit <= '9'; digit++) {
+                        shortOnes.add((scheme == 0 ? "500 " : "Q5 ") + capital + digit);
+                    }
+                }
+                Collections.shuffle(shortOnes, dice);
+            }
+            return shortOnes.get(turn < 62 ? turn : dice.nextInt(70));
         }
 
         String next() {
@@ -378,7 +387,7 @@ public final class ModelTests {
 
     private static int wrong = 0;
     private static final int[] READS = new int[2];
-    private static int fullShelves = 0;
+    private static final int[] FULL_SHELVES = new int[2];
     private static int noneFree = 0;
 
     private static long part(CallNumbers x, int i) {
@@ -405,33 +414,42 @@ public final class ModelTests {
         Model m = new Model(scheme);
         Texts texts = new Texts(dice, m.scheme, run % 3);
         boolean filling = run % 5 < 2;
-        boolean toTheFull = m.scheme == 1 && run % 10 < 4;
+        boolean toTheFull = run % 10 < 4;
+        int end = toTheFull ? CALLS : CALLS - 60;
         int calls = 0;
-        while (calls + 60 < CALLS) {
+        int turn = 0;
+        while (calls < end) {
             boolean fillUp = toTheFull && m.shelf.size() < 60;
+            String text = null;
             if (fillUp || m.latest == null || dice.nextInt(100) < (filling ? 70 : 35)) {
-                String text = toTheFull ? texts.shortOne() : texts.next();
-                for (int k = 0; k < text.length(); k++) {
-                    int c = text.charAt(k) + (run % 7 == 0 ? 256 * dice.nextInt() : 0);
-                    x.sign(c);
-                    m.sign(c);
-                }
-                int answer = m.read();
-                due(run, "read() of '" + text + "'", x.read(), answer);
-                READS[answer < 0 ? 1 : 0]++;
-                int record = dice.nextInt(12) - 1;
-                int place = m.put(record);
-                fullShelves += place == -1 && m.latest != null ? 1 : 0;
-                due(run, "put(" + record + ")", x.put(record), place);
-                calls += text.length() + 2;
-            } else {
+                text = toTheFull ? texts.shortOne(turn++) : texts.next();
+            }
+            if (text == null || calls + text.length() + 2 > CALLS) {
                 ask(run, dice, x, m, filling);
                 calls++;
+            } else {
+                readAndPut(run, dice, x, m, text);
+                calls += text.length() + 2;
             }
         }
         for (int k = 0; k < 61 && calls < CALLS; k++, calls++) {
             due(run, "shelf(" + k + ")", x.shelf(k), m.shelf(k));
         }
+    }
+
+    private static void readAndPut(int run, Random dice, CallNumbers x, Model m, String text) {
+        for (int k = 0; k < text.length(); k++) {
+            int c = text.charAt(k) + (run % 7 == 0 ? 256 * dice.nextInt() : 0);
+            x.sign(c);
+            m.sign(c);
+        }
+        int answer = m.read();
+        due(run, "read() of '" + text + "'", x.read(), answer);
+        READS[answer < 0 ? 1 : 0]++;
+        int record = dice.nextInt(12) - 1;
+        int place = m.put(record);
+        FULL_SHELVES[m.scheme] += place == -1 && m.latest != null ? 1 : 0;
+        due(run, "put(" + record + ")", x.put(record), place);
     }
 
     private static void ask(int run, Random dice, CallNumbers x, Model m, boolean filling) {
@@ -460,9 +478,10 @@ public final class ModelTests {
             run(run);
         }
         System.out.println(READS[0] + " call numbers and " + READS[1] + " wrong texts were read, "
-                + fullShelves + " times the shelf was full, " + noneFree + " times no cutter was free");
+                + FULL_SHELVES[0] + " and " + FULL_SHELVES[1] + " times the shelf was full, " + noneFree + " times no cutter was free");
         // Runs that never come to an edge would pass without testing it.
-        boolean idle = READS[0] == 0 || READS[1] == 0 || fullShelves == 0 || noneFree == 0;
+        boolean idle = READS[0] == 0 || READS[1] == 0 || FULL_SHELVES[0] == 0
+                || FULL_SHELVES[1] == 0 || noneFree == 0;
         System.out.println(wrong == 0 ? "all answers are as due" : wrong + " answers are not as due");
         if (wrong != 0 || idle) {
             System.exit(1);
